@@ -37,7 +37,7 @@ public final class AlertEngine {
 
     private static final int GREATEST_BYTE = 127, MOST_FED = 5;
     private static final int MOST_MINUTES = 100, LAST_MINUTE = 99999;
-    private static final int WRONG_TEXT = -100, SAVED_BASE = 1000;
+    private static final int WRONG_TEXT = -100, SAVED_BASE = 1000, FIRST_PARAMETER_COUNT = 10;
 
     private final Tape tape;
     private final State now;
@@ -91,11 +91,12 @@ public final class AlertEngine {
         int number = lowestFree(now.setup.slots(kind));
         if (number == NOTHING) return FULL;
         tape.rewind();
+        // a wrong text reads as null, which leaves the slot as free as it was
         if (kind == RULE) now.setup.putRule(number, tape.readRule());
         if (kind == SILENCE) now.setup.silences[number] = tape.readSilence();
         if (kind == INHIBITION) now.setup.inhibitions[number] = tape.readInhibition();
         int answer = tape.wrong ? WRONG_TEXT - tape.at : number;
-        tape.length = 0;
+        tape.clear();
         return answer;
     }
 
@@ -232,10 +233,12 @@ public final class AlertEngine {
             case 7: return now.setup.greatestSeverity(now.active());
             case 8: return now.countSilencesInUse();
             case 9: return tape.length;
-            default:
+            default: return parameterOrNone(what - FIRST_PARAMETER_COUNT);
         }
-        int parameter = what - 10;
-        return parameter >= 0 && parameter < PARAMETERS ? now.setup.parameters[parameter] : NONE;
+    }
+
+    private int parameterOrNone(int what) {
+        return what >= 0 && what < PARAMETERS ? now.setup.parameters[what] : NONE;
     }
 
     private static boolean isSeries(int series) {
@@ -368,6 +371,10 @@ public final class AlertEngine {
 
         void append(int b) {
             if (length < MOST_BYTES) bytes[length++] = b;
+        }
+
+        void clear() {
+            length = 0;
         }
 
         void rewind() {

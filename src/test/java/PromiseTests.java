@@ -166,7 +166,8 @@ public final class PromiseTests {
             {"t0,s1:>1for0sev0", "   |"}, {"t0,t0,t0,t0,t0:>1for0sev0", "           |"},
             {"t0::>1for0sev0", "   |"}, {":>1for0sev0", "|"}, {"1for0sev0", "|"}, {">>1for0sev0", " |"},
             {">--1for0sev0", "  |"}, {">00for0sev0", "  |"}, {">01for0sev0", "  |"}, {">-00for0sev0", "   |"},
-            {">10000for0sev0", "     |"}, {">1 for0sev0", "  |"}, {">1fer0sev0", "   |"}, {">1foo0sev0", "    |"},
+            {">10000for0sev0", "     |"}, {">:for0sev0", " |"}, {">1:for0sev0", "  |"}, {">/for0sev0", " |"},
+            {">1 for0sev0", "  |"}, {">1fer0sev0", "   |"}, {">1foo0sev0", "    |"},
             {">1forsev0", "     |"}, {">1for-1sev0", "     |"}, {">1for00sev0", "      |"}, {">1for12345sev0", "         |"},
             {">1for0rev0", "      |"}, {">1for0sav0", "       |"}, {">1for0sew0", "        |"}, {">1for0sev4", "         |"},
             {">1for0sev00", "          |"}, {">1for0sev0 ", "          |"}, {" >1for0sev0", "|"}, {"\0", "|"},
@@ -176,6 +177,7 @@ public final class PromiseTests {
             due(pair[0], add(x, RULE, pair[0]), -99 - pair[1].length());
             due("tape emptied", x.count(9), 0);
             due("rules", x.count(1), 0);
+            due("a good one after it", add(x, RULE, ">1for0sev0"), 0);
         }
     }
 
@@ -353,6 +355,8 @@ public final class PromiseTests {
         x.sample(0, 0);
         x.pass(1);
         due("inactive after pending is no transition", x.alert(0, 0, 6), 2);
+        due("inactive", x.alert(0, 0, 0), 0);
+        due("since", x.alert(0, 0, 1), NOTHING);
         alertErrors(x);
     }
 
@@ -390,6 +394,37 @@ public final class PromiseTests {
         due("another host", x.alert(3, 3, 10), 1);
         x.label(3, 2, 2);
         due("another zone", x.alert(3, 3, 10), 0);
+        AlertEngine bounds = withRules("=-9876for0sev0", "=1234for12sev0", "=-0for0sev0");
+        bounds.sample(0, -9876);
+        bounds.sample(1, 1234);
+        bounds.sample(2, 0);
+        due("bounds", bounds.alerts(6), 1 | 1L << 13 | 1L << 26);
+        bounds.pass(12);
+        due("pending for 12", bounds.alert(1, 1, 0), 1);
+        bounds.pass(1);
+        due("firing", bounds.alert(1, 1, 0), 2);
+        eachMatcher();
+    }
+
+    /** Each matcher of a rule with each value of its label, and with another label of this value. */
+    private static void eachMatcher() {
+        String letters = "thz";
+        int[] values = {4, 8, 4};
+        for (int label = 0; label < 3; label++) {
+            for (int digit = 0; digit < values[label]; digit++) {
+                AlertEngine x = withRules(letters.charAt(label) + "" + digit + ":>0for0sev0", "!" + letters.charAt(label) + digit + ":>0for0sev0");
+                x.sample(7, 1);
+                for (int value = 0; value < values[label]; value++) {
+                    x.label(7, label, value);
+                    due("matched", x.alert(0, 7, 10), value == digit ? 1 : 0);
+                    due("not matched", x.alert(1, 7, 10), value == digit ? 0 : 1);
+                }
+                x.label(7, label, 0);
+                x.label(7, (label + 1) % 3, 3);
+                x.label(7, (label + 2) % 3, 3);
+                due("the other labels", x.alert(0, 7, 10), digit == 0 ? 1 : 0);
+            }
+        }
     }
 
     private static void silencedAlerts() {
@@ -407,6 +442,7 @@ public final class PromiseTests {
         int[] inUse = {0, 0, 0, 1, 2, 0, 0, 0};
         for (int minute = 0; minute < due.length; minute++) {
             for (int i = 0; i < 4; i++) due("silenced at " + minute, x.alert(i / 2, i % 2, 2), due[minute][i]);
+            due("silence 0 at " + minute, x.alert(0, 1, 8), minute == 3 || minute == 4 ? 0 : NOTHING);
             due("lowest silence at " + minute, x.alert(1, 1, 8), lowestOfLast[minute]);
             due("silences in use at " + minute, x.count(8), inUse[minute]);
             due("firing and silenced at " + minute, x.alerts(2), minute == 3 || minute == 4 ? 3 : 0);
@@ -451,6 +487,15 @@ public final class PromiseTests {
         due("each the other", x.alert(1, 1, 9), 2);
         x.remove(INHIBITION, 1);
         due("no longer", x.alert(1, 0, 9), NOTHING);
+        add(x, INHIBITION, "s3>s1/t");
+        due("the same team, the lowest", x.alert(1, 0, 9), 0);
+        due("the same team", x.alert(1, 1, 3), 1);
+        x.label(0, 0, 3);
+        due("another team", x.alert(1, 1, 9), 1);
+        x.sample(1, -1);
+        x.sample(0, -1);
+        x.pass(1);
+        due("none of them fires", x.alerts(3), 0);
         AlertEngine alone = withRules(">0for0sev1");
         add(alone, INHIBITION, "s1>s1/");
         alone.sample(0, 1);
@@ -651,6 +696,17 @@ public final class PromiseTests {
             due("sent key", x.sent(0, 1), keys[grouping]);
             due("sent kind", x.sent(0, 2), 0);
         }
+        AlertEngine y = withRules(">0for0sev1");
+        y.sample(11, 1);
+        y.label(11, 1, 5);
+        y.label(11, 2, 2);
+        due("key 0 opened", y.pass(1), 1);
+        due("all labels", y.parameter(4, 7), 1);
+        due("key of series 11", y.alert(0, 11, 7), 22);
+        due("key 0 never sent", y.group(0, 0), 0);
+        due("key 0 is not resolved", y.pass(1), 1);
+        y.label(11, 0, 1);
+        due("key of series 11", y.key(0), 54);
     }
 
     private static void keys() {
@@ -764,12 +820,16 @@ public final class PromiseTests {
         y.remove(RULE, 0);
         y.remove(SILENCE, 0);
         y.remove(INHIBITION, 0);
-        y.label(0, 1, 4);
+        y.label(0, 0, 3);
+        for (int series = 0; series < 12; series++) y.sample(series, 0);
+        y.pass(5);
         for (int what = 0; what < 5; what++) y.parameter(what, 3);
         for (int series = 0; series < 12; series++) y.sample(series, 5);
         y.pass(90);
         due("undo", y.undo(), 7);
         same(before, answers(y));
+        due("label of series 0", y.label(0, 0, 2), 0);
+        for (int i = 0; i < 25; i++) toggle(y, i % 2 == 1);
         y.pass(50);
         due("it stays", y.undo(), 7);
         same(before, answers(y));
