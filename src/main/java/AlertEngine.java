@@ -594,11 +594,11 @@ public final class AlertEngine {
             return matched;
         }
 
-        /** The alerts that have the same labels as the given one, for all labels that are asked for. */
-        long alike(int alert, int sameLabels) {
+        /** The alerts that have the same labels as a series, for all labels that are asked for. */
+        long alike(int series, int sameLabels) {
             long alike = EVERY_ALERT;
             for (int label = 0; label < LABELS; label++) {
-                int value = labels[label * SERIES + alert % SERIES];
+                int value = labels[label * SERIES + series];
                 if ((sameLabels >> label & 1) != 0) alike &= labelSets[FIRST_SET[label] + value];
             }
             return alike;
@@ -697,9 +697,8 @@ public final class AlertEngine {
 
         /** How many of the remembered transitions are at minutes greater than the given one. */
         int transitionsAfter(int alert, int minute) {
-            int remembered = Math.min(transitionCount[alert], REMEMBERED);
             int count = 0;
-            for (int i = 0; i < remembered; i++) {
+            for (int i = 0; i < REMEMBERED && i < transitionCount[alert]; i++) {
                 if (transitions[alert * REMEMBERED + i] > minute) count++;
             }
             return count;
@@ -919,15 +918,30 @@ public final class AlertEngine {
             for (int i = 0; i < INHIBITIONS; i++) {
                 Inhibition inhibition = setup.inhibitions[i];
                 if (inhibition == null || !has(setup.matched(inhibition.targets), alert)) continue;
-                inhibitors |= setup.matched(inhibition.causes) & setup.alike(alert, inhibition.sameLabels);
+                inhibitors |= setup.matched(inhibition.causes) & setup.alike(alert % SERIES, inhibition.sameLabels);
             }
             return inhibitors & states.firing & ~(1L << alert);
         }
 
         long inhibited() {
             long inhibited = 0;
-            for (int alert = 0; alert < ALERTS; alert++) {
-                if (inhibitorsOf(alert) != 0) inhibited |= 1L << alert;
+            for (int i = 0; i < INHIBITIONS; i++) {
+                Inhibition inhibition = setup.inhibitions[i];
+                if (inhibition != null) inhibited |= inhibitedBy(inhibition);
+            }
+            return inhibited;
+        }
+
+        private long inhibitedBy(Inhibition inhibition) {
+            long causes = setup.matched(inhibition.causes) & states.firing;
+            long targets = setup.matched(inhibition.targets) & states.firing;
+            long inhibited = 0;
+            for (int series = 0; series < SERIES; series++) {
+                long inhibitors = causes & setup.alike(series, inhibition.sameLabels);
+                if (inhibitors == 0) continue;
+                // a single inhibitor does not inhibit itself, while several inhibit one another
+                long others = Long.bitCount(inhibitors) == 1 ? ~inhibitors : EVERY_ALERT;
+                inhibited |= targets & FIRST_SERIES << series & others;
             }
             return inhibited;
         }

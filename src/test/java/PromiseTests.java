@@ -496,6 +496,14 @@ public final class PromiseTests {
         x.sample(0, -1);
         x.pass(1);
         due("none of them fires", x.alerts(3), 0);
+        AlertEngine causeless = withRules(">0for0sev1", ">5for0sev3");
+        add(causeless, INHIBITION, "s3>s1/t");
+        causeless.sample(0, 1);
+        causeless.sample(1, 9);
+        causeless.label(1, 0, 1);
+        causeless.pass(1);
+        due("a target without a cause in its team", causeless.alerts(3), 2);
+        due("is active", causeless.alerts(5), 1 | 1L << 13);
         AlertEngine alone = withRules(">0for0sev1");
         add(alone, INHIBITION, "s1>s1/");
         alone.sample(0, 1);
