@@ -3,10 +3,16 @@ import java.util.Objects;
 /** Counts and prints the answers that are not due; also feeds texts to an engine. */
 final class Check {
     private static final int MOST_PRINTED = 40;
+    private static String under = "";
     private static int wrong = 0;
     private static int checks = 0;
 
     private Check() {
+    }
+
+    /** Names the sentence that the following checks stand for. */
+    static void under(String sentence) {
+        under = sentence.isEmpty() ? "" : "[" + sentence + "] ";
     }
 
     static void due(String what, long got, long want) {
@@ -21,7 +27,7 @@ final class Check {
 
     static void fail(String text) {
         wrong++;
-        if (wrong <= MOST_PRINTED) System.out.println(text);
+        if (wrong <= MOST_PRINTED) System.out.println(under + text);
     }
 
     static boolean allDue() {
