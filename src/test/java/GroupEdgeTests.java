@@ -32,6 +32,7 @@ public final class GroupEdgeTests extends Edges {
         holds(DESCRIPTION, "A group that is open and empty, and one that is not open and not empty, would be sent in the next minute.",
             GroupEdgeTests::sentNextMinute);
         holds(DESCRIPTION, "An alert that left a group and came back between two sendings was in it when it was sent.", GroupEdgeTests::leftAndBack);
+        holds(DESCRIPTION, "the alert of rule r and series s has the number 12 * r + s", GroupEdgeTests::ruleOfTheSameNumber);
     }
 
     private static void answers() {
@@ -454,6 +455,35 @@ public final class GroupEdgeTests extends Edges {
         x.sample(1, 0);
         due("it is new then", x.pass(1), 1);
         lastSent(x, 10, 0, GROWN, 2);
+    }
+
+    /** An alert is told by its number: those of a new rule with the number of a removed one have left and come back. */
+    private static void ruleOfTheSameNumber() {
+        AlertEngine x = withRules("=0for0sev1", "=0for0sev2");
+        step(x, 0);
+        lastSent(x, 1, 0, OPENED, 2);
+        x.remove(RULE, 1);
+        due("gone", x.group(0, 2), 1);
+        due("the same number", add(x, RULE, "<9for2sev3"), 1);
+        due("not firing yet", x.pass(2), 0);
+        due("firing again", x.pass(1), 0);
+        due("both", x.group(0, 2), 2);
+        due("none of them is new", x.group(0, 3), 0);
+        due("not before the repeat", x.group(0, 4), 61);
+        due("another number", add(x, RULE, "=0for0sev0"), 2);
+        x.pass(1);
+        due("its alert is new", x.group(0, 3), 1);
+        due("after the group interval", x.pass(1), 1);
+        lastSent(x, 6, 0, GROWN, 3);
+        due("with the severity of the new rule", x.sent(0, 4), 3);
+        AlertEngine y = withRules("=0for0sev1");
+        step(y, 0);
+        y.remove(RULE, 0);
+        due("the same number", add(y, RULE, "=0for1sev1"), 0);
+        due("resolved while it is pending", y.pass(1), 1);
+        lastSent(y, 2, 0, RESOLVED, 0);
+        due("opened anew", y.pass(1), 1);
+        lastSent(y, 3, 0, OPENED, 1);
     }
 
     private static void passAnswers() {
